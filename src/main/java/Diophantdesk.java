@@ -1603,14 +1603,9 @@ public final class Diophantdesk {
             return square(vx, vy);
         }
 
-        /** None but u, v, their sum and their difference can be so short, each with its opposite. */
+        /** Each has its opposite. A third pair would make triangles of equal sides, which whole numbers have none of. */
         int countLeast() {
-            long least = leastSquare();
-            int pairs = 1;
-            pairs += square(vx, vy) == least ? 1 : 0;
-            pairs += square(ux + vx, uy + vy) == least ? 1 : 0;
-            pairs += square(ux - vx, uy - vy) == least ? 1 : 0;
-            return 2 * pairs;
+            return secondSquare() == leastSquare() ? 4 : 2;
         }
 
         /** With arrows so short no corner further than one off the mesh round the place can be nearest. */
@@ -1692,7 +1687,7 @@ public final class Diophantdesk {
             }
         }
 
-        /** Of ways as short the one counts that begins with the smallest POUR. */
+        /** The queue goes by rising steps, and by rising first POURS among as many: so what comes first stays. */
         private void reach(int first, int second, int step, int begin) {
             if (first < 0 || first >= TURN || second < 0 || second >= TURN) {
                 return;
@@ -1703,8 +1698,6 @@ public final class Diophantdesk {
                 begins[state] = begin;
                 queue[reached] = state;
                 reached++;
-            } else if (steps[state] == step && begin < begins[state]) {
-                begins[state] = begin;
             }
         }
 
@@ -1714,8 +1707,6 @@ public final class Diophantdesk {
             }
             if (leftOf[goal] == NONE) {
                 leftOf[goal] = step;
-                nextOf[goal] = begin;
-            } else if (leftOf[goal] == step && begin < nextOf[goal]) {
                 nextOf[goal] = begin;
             }
         }

@@ -1,4 +1,5 @@
 import java.util.concurrent.Callable;
+import java.util.function.LongConsumer;
 
 /** At least one test of each promise of the document: ordinary inputs, the edges that it names, wrong inputs. */
 public final class PromiseTest {
@@ -144,6 +145,7 @@ public final class PromiseTest {
         due(4, d.inBox(0, 9, 0, 9));
         due(2, d.inBox(1, 2, -9, 9));
         due(1, d.inBox(0, 9, 3, 9));
+        due(1, d.inBox(1, 1, 2, 2));
         due(0, d.inBox(4, 9, 0, 9));
         d.equation(0, 7, 21);
         due(11, d.inBox(-5, 5, 3, 3));
@@ -178,6 +180,8 @@ public final class PromiseTest {
         due(9998, d.congruent(-1, 1, 9999, 2));
         due(0, d.congruent(9999, 9999, 1, 2));
         thrown(ARGUMENT, () -> d.congruent(10000, 1, 1, 0));
+        thrown(ARGUMENT, () -> d.congruent(-10000, 1, 1, 0));
+        thrown(ARGUMENT, () -> d.congruent(1, 10000, 1, 0));
         thrown(ARGUMENT, () -> d.congruent(1, -10000, 1, 0));
         thrown(ARGUMENT, () -> d.congruent(1, 1, 0, 0));
         thrown(ARGUMENT, () -> d.congruent(1, 1, 10000, 0));
@@ -374,6 +378,14 @@ public final class PromiseTest {
         due(false, e.isMet(1 << 28, 0, 0, 0));
         due(true, e.isMet(1 << 28, 5, 5, -(1 << 28)));
         due(false, system(1, row(0, 0, 0, 0, 1)).isMet(0, 0, 0, 0));
+        for (int unknowns = 1; unknowns <= 4; unknowns++) {
+            Diophantdesk f = system(unknowns, row(1, 2, 3, 4, 5 - unknowns));
+            int[] x = {0, 0, 0, 0};
+            x[0] = 5 - unknowns;
+            due(true, f.isMet(x[0], unknowns > 1 ? 0 : 7, unknowns > 2 ? 0 : 7, unknowns > 3 ? 0 : 7));
+            x[unknowns - 1]++;
+            due(false, f.isMet(x[0], x[1], x[2], x[3]));
+        }
     }
 
     private static void coin() {
@@ -400,6 +412,8 @@ public final class PromiseTest {
         thrown(ARGUMENT, () -> d.uncoin(31));
         due(1, d.uncoin(5));
         due(0, d.ofCoins(0));
+        due(1, coins(1).uncoin(1));
+        due(1, coins(30).uncoin(30));
         due(4, d.desk(4));
     }
 
@@ -421,6 +435,8 @@ public final class PromiseTest {
         due(6, d.payNext(7, false));
         due(9, d.payNext(9, true));
         due(9, d.payNext(9, false));
+        due(0, d.payNext(0, true));
+        due(900, d.payNext(900, true));
         due(0, desk().payNext(900, false));
         due(-1, desk().payNext(1, true));
         due(-1, coins(29).payNext(900, true));
@@ -435,6 +451,8 @@ public final class PromiseTest {
         due(0, d.payable(7, 7));
         due(1, d.payable(8, 8));
         due(897, d.payable(0, 900));
+        due(1, d.payable(0, 0));
+        due(1, d.payable(900, 900));
         due(-9, d.payable(5, 4));
         thrown(ARGUMENT, () -> d.payable(901, 900));
         thrown(ARGUMENT, () -> d.payable(0, -1));
@@ -542,10 +560,19 @@ public final class PromiseTest {
         due(0, d.nearest(1, 1, 1));
         due(0, d.nearest(1, 1, 2));
         due(4, d.nearest(1, 1, 3));
+        int[][] turnedArrows = {{0, 2, 2, 0}, {-2, 0, 0, -2}, {0, -2, -2, 0}, {2, 0, 0, -2}, {-2, 0, 0, 2}, {2, 2, 4, 2}};
+        for (int[] a : turnedArrows) {
+            d.lattice(a[0], a[1], a[2], a[3]);
+            due(-6, d.nearest(-5, 7, 1));
+            due(6, d.nearest(-5, 7, 2));
+            due(4, d.nearest(-5, 7, 3));
+        }
         due(-2, d.nearest(-1, 0, 1));
         due(2, d.nearest(-1, 0, 3));
         due(-1000, d.nearest(-999, -999, 2));
         thrown(ARGUMENT, () -> d.nearest(1000, 0, 0));
+        thrown(ARGUMENT, () -> d.nearest(-1000, 0, 0));
+        thrown(ARGUMENT, () -> d.nearest(0, 1000, 0));
         thrown(ARGUMENT, () -> d.nearest(0, -1000, 0));
         thrown(ARGUMENT, () -> d.nearest(0, 0, 4));
         thrown(ARGUMENT, () -> d.nearest(0, 0, -1));
@@ -730,6 +757,79 @@ public final class PromiseTest {
         due(want, d.digest());
         d.knock();
         due(false, want == d.digest());
+        Diophantdesk e = system(4, row(3, 6, 9, 12, 3), row(-6, 10, 15, 0, 1), row(7, -5, 2, 1, 4));
+        e.equation(-6, 97, 55);
+        e.coin(7);
+        e.coin(30);
+        e.lattice(17, 4, -5, 22);
+        e.jugs(7, 11);
+        e.jug(0);
+        e.jug(4);
+        e.jug(0);
+        due(digestByFace(e), e.digest());
+        e.undo();
+        due(e.changeRow(2, 0, 0), 7);
+        due(e.changeRow(2, 1, 0), -5);
+        due(e.changeRow(2, 2, 0), 2);
+        due(e.changeRow(2, 3, 0), 1);
+        e.equation(0, 0, 3);
+        due(digestByFace(e), e.digest());
+    }
+
+    /** The sum that promise 40 tells, by calls of the face alone. */
+    private static long digestByFace(Diophantdesk d) {
+        long[] sum = {4911};
+        LongConsumer put = v -> sum[0] = sum[0] * 31 + v;
+        for (int what = 0; what <= 5; what++) {
+            put.accept(d.desk(what));
+        }
+        put.accept(d.isSolvable() ? 1 : 0);
+        for (int t = -1; t <= 1 && d.isSolvable(); t++) {
+            put.accept(d.along(t, false));
+            put.accept(d.along(t, true));
+        }
+        put.accept(d.inBox(-50, 50, -40, 40));
+        for (int what = 0; what <= 2; what++) {
+            put.accept(d.congruent(d.desk(0), d.desk(1), 97, what));
+        }
+        for (int what = 0; what <= 5; what++) {
+            put.accept(d.ofSystem(what));
+        }
+        for (int place = 0; place < d.ofSystem(1); place++) {
+            put.accept(d.form(place).length());
+        }
+        for (int n = 0; n < d.ofSystem(5); n++) {
+            put.accept(d.act(n).length());
+        }
+        put.accept(d.diagonal().length());
+        put.accept(d.answer().length());
+        put.accept(d.paper().length());
+        for (int place = 0; place < d.ofSystem(3); place++) {
+            put.accept(d.basis(place).length());
+        }
+        put.accept(d.inCube(2));
+        for (int what = 0; what <= 5; what++) {
+            put.accept(d.ofCoins(what));
+        }
+        put.accept(d.ways(100));
+        put.accept(d.fewest(97));
+        put.accept(d.payable(0, 50));
+        for (int what = 0; what <= 3; what++) {
+            put.accept(d.shortest(what));
+        }
+        for (int what = 0; what <= 3; what++) {
+            put.accept(d.nearest(17, 29, what));
+        }
+        put.accept(d.inJug(false, false));
+        put.accept(d.inJug(false, true));
+        put.accept(d.inJug(true, false));
+        put.accept(d.inJug(true, true));
+        for (int goal = 0; goal <= 30; goal++) {
+            put.accept(d.left(goal));
+            put.accept(d.next(goal));
+        }
+        put.accept(d.isSound() ? 1 : 0);
+        return sum[0];
     }
 
     public static void main(String[] args) {
