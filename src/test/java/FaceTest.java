@@ -82,9 +82,11 @@ public final class FaceTest {
                     method + " bears the name of a public one");
         }
         for (Class<?> inside : c.getDeclaredClasses()) {
-            must(Modifier.isStatic(inside.getModifiers()), inside + " is not static");
+            must(!Modifier.isPublic(inside.getModifiers()) && !Modifier.isProtected(inside.getModifiers()),
+                    inside + " is seen from outside");
             for (Method method : inside.getDeclaredMethods()) {
-                must(!names.contains(method.getName()), method + " bears the name of a public one");
+                must(!Modifier.isPrivate(method.getModifiers()) || !names.contains(method.getName()),
+                        method + " bears the name of a public one");
             }
         }
     }
@@ -111,19 +113,21 @@ public final class FaceTest {
     private static void checkSource() throws Exception {
         String source = Files.readString(SOURCE);
         String code = source.replaceAll("(?s)/\\*.*?\\*/", " ").replaceAll("//[^\n]*", " ").replaceAll("\"[^\"\n]*\"", "\"\"");
-        for (String no : new String[] {"->", "::", "try ", "catch", "finally", "synchronized", "assert ", "instanceof",
-            "@", "double", "float", "String[]", "+ \"", "\" +", "\"\" ==", "Exact", "System.", "Thread", "Object",
-            "while (true)", "for (;;)", "static {", "package ", "MIN_VALUE", "MAX_VALUE", "protected "}) {
-            must(!code.contains(no), "the source holds " + no);
+        String other = code.replaceAll("(case [^:;{}]*|default )->", "").replaceAll("@Override|System\\.arraycopy", "");
+        for (String no : new String[] {"->", "::", "finally", "synchronized", "\\bassert\\b", "@", "\\+ \"", "\" \\+", "\"\" ==",
+            "Exact\\b", "\\bSystem\\b", "\\bThread\\b", "\\bObject\\b", "while \\(true\\)", "for \\(;;\\)", "static \\{", "\\bpackage\\b",
+            "\\bprotected\\b", "catch \\((Array\\w*|NullPointer|ClassCast|NegativeArraySize)?(Exception|Error|Throwable)\\b"}) {
+            must(!Pattern.compile(no).matcher(other).find(), "the source holds " + no);
         }
         Matcher imports = Pattern.compile("(?m)^import (.*);").matcher(code);
         while (imports.find()) {
-            must(imports.group(1).equals("java.util.Arrays"), "import of " + imports.group(1));
+            must(imports.group(1).matches("java\\.util\\.(Arrays|ArrayList|List|Iterator|NoSuchElementException)"),
+                    "import of " + imports.group(1));
         }
-        Matcher thrown = Pattern.compile("throw ([^;]*);").matcher(code);
+        Matcher thrown = Pattern.compile("\\bthrow ([^;]*);").matcher(code);
         while (thrown.find()) {
-            must(thrown.group(1).matches("new (IllegalState|IllegalArgument|IndexOutOfBounds)Exception\\(\"\"\\)"),
-                    "throws " + thrown.group(1));
+            must(thrown.group(1).matches("new (IllegalState|IllegalArgument|IndexOutOfBounds|Arithmetic|UnsupportedOperation"
+                    + "|NoSuchElement|Runtime)Exception\\((\"\")?\\)"), "throws " + thrown.group(1));
         }
         for (int i = 0; i < source.length(); i++) {
             must(source.charAt(i) < 128, "a sign above 127");

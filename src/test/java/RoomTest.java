@@ -4,7 +4,7 @@ import java.lang.management.ManagementFactory;
 public final class RoomTest {
     private static final int CALLS = 512;
     /** The room is 7.3 million fields and elements; no field takes less than a byte. */
-    private static final long MOST_BYTES = 2_000_000;
+    private static final long MOST_BYTES = 7_300_000;
 
     private static long made() {
         return ((com.sun.management.ThreadMXBean) ManagementFactory.getThreadMXBean()).getCurrentThreadAllocatedBytes();
