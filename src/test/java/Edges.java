@@ -39,18 +39,28 @@ abstract class Edges {
 
         Diophantdesk made() {
             Diophantdesk desk = new Diophantdesk();
-            doneOn(desk);
+            doneOn(desk, false);
+            return desk;
+        }
+
+        /** An object that was asked for all it knows ahead of each call. */
+        Diophantdesk madeWithQuestions() {
+            Diophantdesk desk = new Diophantdesk();
+            doneOn(desk, true);
             return desk;
         }
 
         Reference madeByReference() {
             Reference reference = new Reference();
-            doneOn(reference);
+            doneOn(reference, false);
             return reference;
         }
 
-        private void doneOn(Object object) {
+        private void doneOn(Object object, boolean isAsked) {
             for (Object[] call : calls) {
+                if (isAsked) {
+                    outcome(object, "digest");
+                }
                 Object got = outcome(object, (String) call[0], Arrays.copyOfRange(call, 1, call.length));
                 if (got instanceof String && ((String) got).startsWith("throws.")) {
                     fail(Arrays.toString(call) + " is taken, but got " + got);
@@ -203,9 +213,12 @@ abstract class Edges {
         });
     }
 
-    /** What a call on an object made so answers, or throws. */
+    /** What a call on an object made so answers, or throws; what was asked ahead of it makes no difference. */
     static void asks(Object want, Recipe recipe, String name, Object... arguments) {
         due(want, outcome(recipe.made(), name, arguments));
+        Diophantdesk asked = recipe.madeWithQuestions();
+        asked.digest();
+        due(want, outcome(asked, name, arguments));
     }
 
     /** The call is refused by just this exception, and all is and can be undone as if it had not been tried. */

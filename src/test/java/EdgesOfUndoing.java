@@ -291,7 +291,12 @@ final class EdgesOfUndoing extends Edges {
         of("the numbers of the DIAGONAL multiplied up to the k-th one are the GCD of all k by k minors, and there are RANK many;",
                 () -> askSound(system(4, row(20, 20, 20, 20, 0), row(20, -20, 20, -20, 0), row(20, 20, -20, -20, 0),
                 row(20, -20, -20, 20, 0)), system(2, row(0, 0, 5)), system(3, row(2, 4, 4, 0), row(-6, 6, 12, 0),
-                row(10, -4, -16, 0)), system(1, row(0, 0), row(0, 0), row(3, 0), row(6, 0))));
+                row(10, -4, -16, 0)), system(1, row(0, 0), row(0, 0), row(3, 0), row(6, 0)),
+                // the RANK falls
+                system(2, row(2, 3, 5), row(0, 7, 7)).then("changeRow", 1, 1, 0),
+                system(2, row(2, 3, 5), row(0, 7, 7)).then("dropRow", 0), system(2, row(2, 3, 5), row(0, 7, 7)).then("undo"),
+                system(4, row(2, 3, 5, 7, 1)).then("row", 1, 1, 0, 0, 0).then("unknowns", 4),
+                system(2, row(2, 3, 5), row(0, 7, 7)).then("unknowns", 1)));
         of("with just two COINS whose GCD is 1 ofCoins() 4 is a * b - a - b, and ofCoins() 5 half of all sums from 0 to it;", () -> {
             askSound(coins(), coins(1), coins(30), coins(1, 2), coins(1, 30), coins(29, 30), coins(2, 4), coins(2, 3),
                     coins(6, 10, 15), coins(2, 3, 4), coins(1, 2, 3, 4, 5));
