@@ -180,16 +180,23 @@ final class EdgesOfCoins extends Edges {
             bounds(ARGUMENT, 0, 900, 0, "payNext", 0, false);
         });
         inPromise(24);
-        of("How many SUMS from one on to another one (both included) can be PAID. It is LET; it can't be done, if low is above "
-                + "high. - `low`: the one - `high`: the other one", () -> {
+        of("How many SUMS from one on to another one (both included) can be PAID.", () -> {
             int[][] told = {{0, 0, 1}, {0, 29, 1}, {0, 30, 2}, {1, 29, 0}, {1, 30, 1}, {29, 29, 0}, {29, 30, 1}, {30, 30, 1},
                 {30, 31, 1}, {31, 31, 0}, {870, 900, 2}, {871, 899, 0}, {871, 900, 1}, {870, 899, 1}, {899, 899, 0},
-                {899, 900, 1}, {900, 900, 1}, {0, 900, 31}, {1, 899, 29},
-                {1, 0, -9}, {30, 29, -9}, {900, 899, -9}, {900, 0, -9}};
+                {899, 900, 1}, {900, 900, 1}, {0, 900, 31}, {1, 899, 29}};
             for (int[] of : told) {
                 asks(of[2], coins(30), "payable", of[0], of[1]);
             }
-            asks(-9, fresh(), "payable", 900, 0);
+        });
+        of("It is LET; it can't be done, if low is above high. - `low`: the one - `high`: the other one", () -> {
+            for (Recipe recipe : new Recipe[] {fresh(), coins(30), coins(1)}) {
+                for (int high : new int[] {0, 1, 29, 449, 898, 899}) {
+                    asks(-9, recipe, "payable", high + 1, high);
+                    asks(-9, recipe, "payable", 900, high);
+                    due(false, outcome(recipe.made(), "payable", high, high).equals(-9));
+                    changesNothing(recipe, "payable", high + 1, high);
+                }
+            }
         });
         of("Returns that; -9 if it can't be done.", () -> {
             asks(901, coins(1), "payable", 0, 900);

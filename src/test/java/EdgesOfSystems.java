@@ -160,16 +160,32 @@ final class EdgesOfSystems extends Edges {
             }
             asks(3, system(1, row(1, 1), row(1, 1), row(1, 1), row(1, 0)), "ofSystem", 4);
         });
-        of("With the first FAULT one ends. Without a FAULT there is an ANSWER.", () -> {
+        of("With the first FAULT one ends.", () -> {
             asks(0, system(1, row(2, 1), row(0, 1), row(3, 1), row(0, 2)), "ofSystem", 4);
             asks("1/2 0 0 0", system(1, row(2, 1), row(0, 1), row(3, 1), row(0, 2)), "paper");
             asks(1, system(1, row(0, 0), row(0, 1), row(2, 1), row(0, 2)), "ofSystem", 4);
             asks("0 1/2 0 0", system(1, row(0, 0), row(0, 1), row(2, 1), row(0, 2)), "paper");
+        });
+        of("Without a FAULT there is an ANSWER.", () -> {
             asks("none", system(1, row(0, 0), row(0, 1), row(2, 2)), "answer");
             asks("1", system(1, row(0, 0), row(0, 0), row(2, 2)), "answer");
+            asks("none", system(1, row(2, 2), row(0, 1)), "answer");
+            asks("0 0", fresh(), "answer");
         });
-        of("BASIS: the PIVOT ROWS of the STEP FORM of the TABLE of all Wk behind those of PIVOT ROWS. (They are UNKNOWNS less "
-                + "RANK many.)", () -> {
+        of("(They are UNKNOWNS less RANK many.)", () -> {
+            for (int unknowns = 1; unknowns <= 4; unknowns++) {
+                Recipe system = system(unknowns);
+                for (int rank = 0; rank <= unknowns; rank++) {
+                    asks(rank, system, "ofSystem", 2);
+                    asks(unknowns - rank, system, "ofSystem", 3);
+                    asks("throws." + INDEX, system, "basis", unknowns - rank);
+                    if (rank < unknowns) {
+                        system = system.then("row", rank == 0 ? 1 : 0, rank == 1 ? 2 : 0, rank == 2 ? 3 : 0, rank == 3 ? 4 : 0, 1);
+                    }
+                }
+            }
+        });
+        of("BASIS: the PIVOT ROWS of the STEP FORM of the TABLE of all Wk behind those of PIVOT ROWS.", () -> {
             askBasis(fresh(), "1 0", "0 1");
             askBasis(system(4), "1 0 0 0", "0 1 0 0", "0 0 1 0", "0 0 0 1");
             askBasis(system(4, row(1, 1, 1, 1, 0)), "1 0 0 -1", "0 1 0 -1", "0 0 1 -1");
@@ -195,18 +211,25 @@ final class EdgesOfSystems extends Edges {
     }
 
     private static void papers() {
-        of("PAPER (if there is a FAULT i): a fraction for each ROW of the SYSTEM. If i is some Pk: 1 / (Sk at i) for i; otherwise "
-                + "1 for i, and k is how many of the PLACES are ahead of i.", () -> {
+        of("PAPER (if there is a FAULT i): a fraction for each ROW of the SYSTEM.", () -> {
             asks("", fresh(), "paper");
             asks("", system(1, row(2, 4)), "paper");
+            asks("1/2", system(1, row(2, 1)), "paper");
+            asks("1/2 0 0 0", system(1, row(2, 1), row(0, 0), row(2, 1), row(3, 1)), "paper");
+        });
+        of("If i is some Pk: 1 / (Sk at i) for i; otherwise 1 for i, and k is how many of the PLACES are ahead of i.", () -> {
             asks("1/2", system(1, row(2, 3)), "paper");
             asks("1/20", system(2, row(-20, 20, 999)), "paper");
             asks("1/2", system(2, row(4, 6, 7)), "paper");
             asks("1/2", system(1, row(0, 1)), "paper");
             asks("0 0 1/7 0", system(1, row(0, 0), row(0, 0), row(7, 6), row(0, 7)), "paper");
         });
+        of("All others are 0.", () -> {
+            asks("0 0 1/7 0", system(1, row(0, 0), row(0, 0), row(7, 6), row(0, 7)), "paper");
+            asks("-1 0 1/2 0", system(2, row(1, 2, 3), row(0, 0, 0), row(2, 4, 7), row(0, 1, 1)), "paper");
+        });
         of("Then for l from k - 1 down to 0: for Pl what makes the sum of all fractions so far (and this one), each times Sl at "
-                + "its ROW, 0. All others are 0.", () -> {
+                + "its ROW, 0.", () -> {
             asks("-1/6 1/3", system(2, row(2, 0, 2), row(1, 3, 2)), "paper");
             asks("-1/15 -1/15 1/5", system(3, row(2, 0, 0, 2), row(1, 3, 0, 4), row(1, 1, 5, 3)), "paper");
             asks("0 -1/6 0 1/3", system(2, row(0, 0, 0), row(2, 0, 2), row(4, 0, 4), row(1, 3, 2)), "paper");
@@ -244,8 +267,14 @@ final class EdgesOfSystems extends Edges {
         });
         of("Throws `IllegalArgumentException` if many is not 1 to 4", () -> bounds(ARGUMENT, 1, 4, 0, "unknowns", 0));
         inPromise(8);
-        of("Tells a ROW; it stands last. (FACTORS of UNKNOWNS that there are not are lost.) - `a`: the FACTOR of the UNKNOWN 0 - "
-                + "`b`: of 1 - `c`: of 2 - `d`: of 3 - `right`: the RIGHT side", () -> {
+        of("Tells a ROW; it stands last.", () -> {
+            asks(9, system(1, row(1, 1), row(2, 2)).then("row", 9, 20, 20, 20, 0), "changeRow", 2, 0, 0);
+            for (int place = 0; place < 4; place++) {
+                asks(new int[] {1, 6, -11, 16}[place], fourRows(), "changeRow", place, 0, 0);
+            }
+        });
+        of("(FACTORS of UNKNOWNS that there are not are lost.) - `a`: the FACTOR of the UNKNOWN 0 - `b`: of 1 - `c`: of 2 - `d`: of "
+                + "3 - `right`: the RIGHT side", () -> {
             String[] forms = {"1 5", "1 2 5", "1 2 3 5", "1 2 3 4 5"};
             for (int many = 1; many <= 4; many++) {
                 Recipe one = fresh().then("unknowns", many).then("row", 1, 2, 3, 4, 5);
@@ -254,7 +283,6 @@ final class EdgesOfSystems extends Edges {
                 asks("0 0 0 0 0", one.then("unknowns", 4).then("row", 0, 0, 0, 0, 0), "form", 0);
             }
             asks("4 4", fresh().then("unknowns", 1).then("row", 4, 0, 0, 0, 4), "form", 0);
-            asks(9, system(1, row(1, 1), row(2, 2)).then("row", 9, 20, 20, 20, 0), "changeRow", 2, 0, 0);
             asks("0 1 0 0", system(4, row(0, 0, 0, 0, 0)).then("row", 0, 0, 0, 0, 0).then("row", 1, 0, -1, 0, 0),
                     "basis", 1);
         });

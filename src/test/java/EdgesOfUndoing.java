@@ -366,8 +366,8 @@ final class EdgesOfUndoing extends Edges {
         of("inJug() of the first, then of the second, each as it is and then its SIZE; goal by goal from 0 to 30 left() and next();", () ->
                 askDigest(fresh().then("jugs", 30, 29).then("jug", 0).then("jug", 4), fresh().then("jugs", 1, 30).then("jug", 1),
                 fresh().then("jugs", 30, 30), fresh().then("jugs", 6, 9).then("jug", 1).then("jug", 5)));
-        of("1 if isSound(), otherwise 0. Returns d.", () -> {
-            askDigest(fresh(), full(), halfway(), ready());
+        of("1 if isSound(), otherwise 0.", () -> askDigest(fresh(), full(), halfway(), ready()));
+        of("Returns d.", () -> {
             changesNothing(full(), "digest");
             Diophantdesk d = ready().made();
             long digest = d.digest();
