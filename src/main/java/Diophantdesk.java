@@ -1231,9 +1231,11 @@ public final class Diophantdesk {
             int place = system.basis.place(depth);
             long first = system.spot(depth, place);
             long step = system.basis.at(depth, place);
-            long most = Whole.mostTimes(first, step, -side, side);
+            long least = Whole.leastTimes(first, step, -side, side);
+            // What a PIVOT ROW has at its PLACE is 1 or more: no more multiples of it than these lie in the cube.
+            long most = Math.min(Whole.mostTimes(first, step, -side, side), least + 2L * side);
             long count = 0;
-            for (long t = Whole.leastTimes(first, step, -side, side); t <= most; t++) {
+            for (long t = least; t <= most; t++) {
                 system.moveSpot(depth, depth, t, depth + 1);
                 count += countFrom(system, depth + 1, side);
             }
@@ -1498,7 +1500,7 @@ public final class Diophantdesk {
             return i >= 0 && i < count && i < values.length ? values[i] : NONE;
         }
 
-        /** Two COINS a, b without a common divisor leave none above a * b - a - b, 811 at most: SUMS have all of them. */
+        /** Of all COINS with the GCD 1 the two 29 and 30 leave the greatest sum, 811: so SUMS have all of them. */
         int greatestUnpaid() {
             for (int sum = MOST_SUM; sum > 0 && g == 1; sum--) {
                 if (!isPaid(sum)) {
