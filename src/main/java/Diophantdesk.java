@@ -1443,7 +1443,7 @@ public final class Diophantdesk {
                     g = (int) Whole.gcd(g, value);
                 }
             }
-            Arrays.fill(fewestOf, 0);
+            // The sum 0 takes none, whatever COINS there are.
             for (int sum = 1; sum < fewestOf.length; sum++) {
                 fewestOf[sum] = fewestWithOneMore(sum);
             }
